@@ -1,0 +1,70 @@
+/** Counts the answers that are not the ones that are due, and tells them. */
+final class Check {
+    interface Call {
+        long answer();
+    }
+
+    private int looked = 0;
+    private int wrong = 0;
+
+    void due(String what, long want, Call call) {
+        looked++;
+        String got;
+        try {
+            got = Long.toString(call.answer());
+        } catch (RuntimeException thrown) {
+            got = thrown.getClass().getName();
+        }
+        if (!got.equals(Long.toString(want))) {
+            complain(what + " answered " + got + ", due is " + want);
+        }
+    }
+
+    void due(String what, boolean want, boolean got) {
+        looked++;
+        if (want != got) {
+            complain(what + " answered " + got + ", due is " + want);
+        }
+    }
+
+    /** Exactly the class that is due: what the machine throws is a class below it. */
+    void noSuch(String what, Call call) {
+        refused(what, IndexOutOfBoundsException.class, call);
+    }
+
+    void outOfRange(String what, Call call) {
+        refused(what, IllegalArgumentException.class, call);
+    }
+
+    void wrongState(String what, Call call) {
+        refused(what, IllegalStateException.class, call);
+    }
+
+    private void refused(String what, Class<? extends RuntimeException> want, Call call) {
+        looked++;
+        String got;
+        try {
+            got = Long.toString(call.answer());
+        } catch (RuntimeException thrown) {
+            if (thrown.getClass() == want) {
+                return;
+            }
+            got = thrown.getClass().getName();
+        }
+        complain(what + " answered " + got + ", due is " + want.getName());
+    }
+
+    void complain(String text) {
+        wrong++;
+        if (wrong <= 40) {
+            System.out.println(text);
+        }
+    }
+
+    void end() {
+        System.out.println(wrong == 0 ? looked + " answers are as due" : wrong + " answers are not as due");
+        if (wrong != 0) {
+            System.exit(1);
+        }
+    }
+}
