@@ -27,7 +27,8 @@ final class Check {
         }
     }
 
-    /** Exactly the class that is due: what the machine throws is a class below it. */
+    // Exactly the class that is due, thrown by the program's own lines: what the
+    // machine or the library throws for a wrong index must not reach a caller.
     void noSuch(String what, Call call) {
         refused(what, IndexOutOfBoundsException.class, call);
     }
@@ -46,12 +47,17 @@ final class Check {
         try {
             got = Long.toString(call.answer());
         } catch (RuntimeException thrown) {
-            if (thrown.getClass() == want) {
+            if (thrown.getClass() == want && comesFromTheProgram(thrown)) {
                 return;
             }
-            got = thrown.getClass().getName();
+            got = thrown.toString();
         }
         complain(what + " answered " + got + ", due is " + want.getName());
+    }
+
+    private static boolean comesFromTheProgram(RuntimeException thrown) {
+        StackTraceElement[] calls = thrown.getStackTrace();
+        return calls.length > 0 && calls[0].getClassName().equals("GraveyardReader");
     }
 
     void complain(String text) {
