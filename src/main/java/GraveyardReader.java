@@ -514,19 +514,22 @@ public final class GraveyardReader {
                 }
                 found[place] = c;
                 int sumSoFar = sum + weighed[c] + CLUSTER_NUMBERS * place * plain[c];
-                if (last) {
-                    if (sumSoFar % SUM_MODULUS == wantedSum) {
-                        return true;
-                    }
-                    continue;
-                }
-                open[c] = false;
-                if (fill(place + 1, sumSoFar)) {
+                if (last ? sumSoFar % SUM_MODULUS == wantedSum : goesOn(place, c, sumSoFar)) {
                     return true;
                 }
-                open[c] = true;
             }
             return false;
+        }
+
+        // A cluster stands in a row once: it is not open to the places behind it.
+        private boolean goesOn(int place, int c, int sum) {
+            if (c < 0 || c >= DISK_CLUSTERS) {
+                return false;
+            }
+            open[c] = false;
+            boolean joined = fill(place + 1, sum);
+            open[c] = true;
+            return joined;
         }
     }
 }
