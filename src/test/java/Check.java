@@ -41,6 +41,13 @@ final class Check {
         refused(what, IllegalStateException.class, call);
     }
 
+    void same(String what, String want, String got) {
+        looked++;
+        if (!want.equals(got)) {
+            complain(what + " answered " + got + ", due is " + want);
+        }
+    }
+
     private void refused(String what, Class<? extends RuntimeException> want, Call call) {
         looked++;
         String got;
@@ -55,9 +62,14 @@ final class Check {
         complain(what + " answered " + got + ", due is " + want.getName());
     }
 
-    private static boolean comesFromTheProgram(RuntimeException thrown) {
+    /** Tells whether a line of the program threw it, and neither the machine's library nor a test. */
+    static boolean comesFromTheProgram(RuntimeException thrown) {
         StackTraceElement[] calls = thrown.getStackTrace();
-        return calls.length > 0 && calls[0].getClassName().equals("GraveyardReader");
+        if (calls.length == 0) {
+            return false;
+        }
+        String thrower = calls[0].getClassName();
+        return thrower.equals("GraveyardReader") || thrower.startsWith("GraveyardReader$");
     }
 
     void complain(String text) {
