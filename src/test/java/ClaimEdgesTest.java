@@ -276,6 +276,18 @@ public final class ClaimEdgesTest {
                 checksum(1) = 1572
                 confidence(0) = 2
                 """);
+        story("3, though another cluster than that of the chain holds the numbers", """
+                make(1, 5) = 0
+                make(1, 9) = 1
+                grow(0) = 2
+                make(1, 5) = 2
+                throwAway(1) = 37
+                grow(2) = 1
+                throwAway(2) = 38
+                throwAway(0) = 40
+                claim(0) = 0 1
+                confidence(0) = 3
+                """);
         story("3, though the clusters of the chain came with gaps", """
                 make(1, 1) = 0
                 make(1, 2) = 1
@@ -704,6 +716,10 @@ public final class ClaimEdgesTest {
                 throwAway(1) = 40
                 owned(0) = 1
                 owned(1) = 8
+                """);
+        story("17: how many clusters of the claim belong to it: up to the last of the disk", FULL + """
+                throwAway(4) = 8
+                owned(4) = 8
                 """);
         story("17: how many clusters of the claim belong to it: 0, of an empty claim", """
                 make(8, 0) = 0

@@ -15,6 +15,7 @@ public final class DiskEdgesTest {
         test.moving();
         test.throwingAway();
         test.checksums();
+        test.callsOfOneObject();
         test.check.end();
     }
 
@@ -114,6 +115,16 @@ public final class DiskEdgesTest {
                 free() = 38
                 fileOf(1) = 2
                 checksum(1) = 1587
+                """);
+        story("a call that throws changes nothing: throwAway, not the order either", """
+                make(1, 5) = 0
+                throwAway(0) = 40
+                make(1, 5) = 1
+                throwAway(1) = 40
+                throwAway(0) throws IllegalStateException
+                ownerOf(0) = 1
+                owned(0) = 0
+                owned(1) = 1
                 """);
     }
 
@@ -496,6 +507,20 @@ public final class DiskEdgesTest {
                 make(8, 111) = 2
                 checksum(2) = 7557
                 """);
+    }
+
+    private void callsOfOneObject() {
+        story("an object is used for at most 512 calls: the last one changes the disk", "free() = 40\n".repeat(511) + """
+                make(8, 0) = 0
+                """);
+        story("an object is used for at most 512 calls: moves there and back", "make(8, 0) = 0\n"
+                + "move(0) = 8\nmove(0) = 0\n".repeat(250) + "checksum(0) = 2112\nchain(0) = 0 1 2 3 4 5 6 7\n");
+        story("an object is used for at most 512 calls: joins that are looked for in vain", """
+                make(4, 5) = 0
+                throwAway(0) = 40
+                make(4, 6) = 1
+                throwAway(1) = 40
+                """ + "hasJoin(0) = false\n".repeat(508));
     }
 
     private void story(String sentence, String rows) {

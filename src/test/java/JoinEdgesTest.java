@@ -96,6 +96,30 @@ public final class JoinEdgesTest {
                 throwAway(6) = 4
                 join(6) = 36 37 38 39
                 """);
+        story("a row of clusters, of one that is the last of the disk", """
+                make(8, 0)
+                make(8, 0)
+                make(8, 0)
+                make(8, 0)
+                make(7, 0)
+                make(1, 1) = 5
+                throwAway(5) = 1
+                join(5) = 39
+                """);
+        story("a row of clusters that begins at the last of the disk", """
+                make(8, 0)
+                make(8, 0)
+                make(8, 0)
+                make(8, 0)
+                make(7, 0)
+                make(1, 1) = 5
+                throwAway(0) = 8
+                grow(5) = 0
+                grow(5) = 1
+                throwAway(5) = 9
+                claim(5) = 39
+                join(5) = 39 0 1
+                """);
     }
 
     private void freeAndDifferent() {
@@ -115,6 +139,16 @@ public final class JoinEdgesTest {
                 joinAt(2, 0) throws IllegalStateException
                 throwAway(3) = 40
                 join(2) = 2 1
+                """);
+        story("all free now: the clusters between them need not be", """
+                make(1, 1) = 0
+                make(1, 2) = 1
+                make(1, 3) = 2
+                grow(0) = 3
+                throwAway(0) = 38
+                join(0) = 0 3
+                throwAway(2) = 39
+                join(2) = 2
                 """);
         story("all free now: the last of the row is taken and left with other numbers", """
                 make(2, 5) = 0
